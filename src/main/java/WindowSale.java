@@ -322,6 +322,7 @@ public final class WindowSale {
         if (place.windows == 0) {
             return NONE;
         }
+        plans.prepareGains();
         int most = 0;
         for (int n = 1; n <= place.windows; n++) {
             if (plans.allEarn(n)) {
@@ -335,6 +336,7 @@ public final class WindowSale {
         if (n < 1 || n > place.windows || k < 0 || k >= n || !isPart(what)) {
             throw new NoSuchElementException("no such seller");
         }
+        plans.prepareGains();
         return part(plans.sellerGain(n, k), place.unit(), what);
     }
 
@@ -342,6 +344,7 @@ public final class WindowSale {
         if (n < 1 || n > place.windows || !isPart(what)) {
             throw new NoSuchElementException("no such sellers");
         }
+        plans.prepareGains();
         int all = 0;
         for (int k = 0; k < n; k++) {
             all += plans.sellerGain(n, k);
@@ -382,6 +385,7 @@ public final class WindowSale {
     }
 
     public int border() {
+        plans.prepareGains();
         int found = 0;
         int least = NONE;
         for (int w = 0; w <= place.windows; w++) {
@@ -829,13 +833,6 @@ public final class WindowSale {
             }
             return number >= least && number <= greatest || refuse(WRONG_NUMBER);
         }
-
-        /** The value of the NUMBER seen, going on behind it. */
-        int takenNumber() {
-            int value = number;
-            step();
-            return value;
-        }
     }
 
     /** What a text told of the STATION, and the chances that follow from it. */
@@ -947,7 +944,8 @@ public final class WindowSale {
                     return reader.refuse(TOLD_AGAIN);
                 }
             }
-            put(seconds, stands, reader.takenNumber());
+            put(seconds, stands, reader.number);
+            reader.step();
             if (!readInto(weights, stands, reader, 1, 9)) {
                 return false;
             }
@@ -968,7 +966,8 @@ public final class WindowSale {
             if (!reader.seesNumber(least, greatest)) {
                 return false;
             }
-            put(row, k, reader.takenNumber());
+            put(row, k, reader.number);
+            reader.step();
             return true;
         }
 
@@ -1039,9 +1038,9 @@ public final class WindowSale {
         /** The WEIGHTS of those that stand so long at least. */
         int weightFrom(int least) {
             int sum = 0;
-            for (int k = 0; k < stands; k++) {
-                if (secondsOf(k) >= least) {
-                    sum += weightOf(k);
+            for (int k = 0; k < stands && k < seconds.length && k < weights.length; k++) {
+                if (seconds[k] >= least) {
+                    sum += weights[k];
                 }
             }
             return sum;
@@ -1420,7 +1419,8 @@ public final class WindowSale {
             if (!reader.seesNumber(0, 999)) {
                 return false;
             }
-            emit(word | sign << 4 | reader.takenNumber() << 8);
+            emit(word | sign << 4 | reader.number << 8);
+            reader.step();
             return true;
         }
 
@@ -1534,7 +1534,7 @@ public final class WindowSale {
             bestKnown = false;
         }
 
-        private void prepareGains() {
+        void prepareGains() {
             if (gainsKnown) {
                 return;
             }
@@ -1547,10 +1547,6 @@ public final class WindowSale {
             }
             Arrays.fill(upRows, NONE);
             Arrays.fill(downRows, NONE);
-        }
-
-        private int gainAt(int w, int t) {
-            return t < horizon ? entry(gains, w * MOST_SECONDS + t) : 0;
         }
 
         /** What he gains who begins with the WINDOW put ahead last. */
@@ -1569,9 +1565,11 @@ public final class WindowSale {
          */
         private void putAhead(int w, int mostFruits, int up, boolean keeps) {
             int often = station.oftenOf(w);
+            int takes = station.takesOf(w);
+            int walking = station.walking();
             int reach = Math.min(mostFruits, useful + often);
             for (int t = 0; t < horizon; t++) {
-                weighSales(w, t, often);
+                weighSales(w, t, often, takes, walking);
                 long chosen = 0;
                 for (int f = 0; f <= reach; f++) {
                     int most = NONE;
@@ -1593,15 +1591,14 @@ public final class WindowSale {
         }
 
         /** What 0 to OFTEN sales from a SECOND on gain, and where the rests behind them begin. */
-        private void weighSales(int w, int t, int often) {
-            int takes = station.takesOf(w);
+        private void weighSales(int w, int t, int often, int takes, int walking) {
             int sold = 0;
             int second = t;
             for (int many = 0; many <= often; many++) {
-                int onward = second + station.walking();
+                int onward = second + walking;
                 put(soldGains, many, sold);
                 put(onwardRests, many, onward < horizon ? onward * FRUIT_STEPS : NONE);
-                sold += gainAt(w, second);
+                sold += second < horizon ? entry(gains, w * MOST_SECONDS + second) : 0;
                 second += takes;
             }
         }
@@ -1658,7 +1655,7 @@ public final class WindowSale {
             int most = NONE;
             for (int w = 0; w < station.windows; w++) {
                 for (int up = 1; up >= 0; up--) {
-                    int all = startGain(up, w, station.basket());
+                    int all = entry(starts, startIndex(up, w, station.basket()));
                     if (all > most) {
                         most = all;
                         bestWindow = w;
@@ -1738,12 +1735,11 @@ public final class WindowSale {
             return pence;
         }
 
-        /** GAIN of one who has the WINDOWS from the first to the last for himself. */
+        /** GAIN of one who has the WINDOWS from the first to the last for himself, behind prepareGains(). */
         int rowGain(int first, int last) {
             if (!station.has(first) || !station.has(last) || first > last) {
                 return 0;
             }
-            prepareGains();
             int index = first * MOST_WINDOWS + last;
             if (entry(upRows, index) == NONE) {
                 measureUp(first, last);
@@ -1927,7 +1923,8 @@ public final class WindowSale {
             if (!reader.seesNumber(least, greatest)) {
                 return false;
             }
-            put(numbers, lines, reader.takenNumber());
+            put(numbers, lines, reader.number);
+            reader.step();
             return true;
         }
 
