@@ -112,6 +112,8 @@ public final class LogTest {
         fault("waits 61;", 6, 2);
         fault("waits up;", 6, 1);
         fault("fruits;", 0, 1);
+        fault("wxits 1;", 0, 1);
+        fault("wait 1;", 0, 1);
         fault("fruit;window 1 1 1 1;", 6, 1);
         fault("train 5; at 0; fruit; <", 22, 1);
         fault(" ".repeat(401), 400, 1);

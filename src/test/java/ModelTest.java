@@ -5,9 +5,12 @@ import java.util.Random;
 public final class ModelTest {
     public static void main(String[] args) {
         Random random = new Random(20261118);
+        WindowSale used = new WindowSale();
         for (int round = 0; round < 400; round++) {
             Model m = Model.random(random, round % 40 == 0 ? 7 : 5);
-            WindowSale x = Due.at(m.text());
+            // every other one behind other STATIONS: nothing of them may be left
+            WindowSale x = round % 2 == 0 ? Due.at(m.text()) : used;
+            Due.is("station", Due.station(x, m.text()) > 0, true);
             chances(m, x);
             plans(m, x);
             best(m, x);

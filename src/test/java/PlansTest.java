@@ -197,6 +197,7 @@ public final class PlansTest {
         WindowSale x = Due.at("window 10 1 3 9;window 1 1 3 9;basket 2;");
         Due.is("25", x.change(0, 25), 2005);
         Due.is("9", x.change(0, 9), 9);
+        Due.is("1", x.change(0, 1), 1);
         Due.is("10", x.change(0, 10), 1000);
         Due.is("999, a full BASKET", x.change(0, 999), 2979);
         Due.is("0", x.change(0, 0), -1);

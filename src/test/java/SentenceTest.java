@@ -116,6 +116,10 @@ public final class SentenceTest {
         fault("open;", 4, 1);
         fault("worth > 5", 0, 1);
         fault("opens", 0, 1);
+        fault("nummer > 1", 0, 1);
+        fault("num > 1", 0, 1);
+        fault("open an fair", 5, 1);
+        fault("open orr fair", 5, 1);
         fault("Open", 0, 1);
         fault("open < 5", 5, 1);
         fault(" ".repeat(201), 200, 1);

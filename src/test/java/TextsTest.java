@@ -136,6 +136,11 @@ public final class TextsTest {
         fault("5;", 0, 1);
         fault("wal 1;", 0, 1);
         fault("walks 1;", 0, 1);
+        fault("walkz 1;", 0, 1);
+        fault("xtands 5 1;", 0, 1);
+        fault("standx 5 1;", 0, 1);
+        fault("stand 5 1;", 0, 1);
+        fault("standsx 5 1;", 0, 1);
         fault("walk 1;  ", 9, 0, 1);
         fault("window 1 1 1;", 12, 1);
         fault("window 1 1 1 1 1;", 15, 1);
@@ -200,6 +205,8 @@ public final class TextsTest {
         fault(" ".repeat(894) + "walk 222;", 899, 2);
         fault(" ".repeat(894) + "walk 2222;", 899, 1);
         fault(" ".repeat(899) + "walk 2;", 900, 1);
+        fault(" ".repeat(900) + "walk 2;", 900, 1);
+        fault(blanks + "walk 2;walk 2;", 900, 1);
         fault(" ".repeat(890) + "cost 1;" + "cost 1;", 897, 3);
         fault(" ".repeat(880) + "x" + " ".repeat(40), 880, 1);
     }
