@@ -1,4 +1,8 @@
+import java.lang.reflect.InvocationTargetException;
+import java.lang.reflect.Method;
 import java.nio.charset.StandardCharsets;
+import java.util.Arrays;
+import java.util.Comparator;
 import java.util.NoSuchElementException;
 
 /** What all tests share: answers compared with those that are due, and texts put on the tape. */
@@ -8,6 +12,7 @@ final class Due {
 
     private static int wrong = 0;
     private static int asked = 0;
+    private static String part = "";
 
     private Due() {
     }
@@ -21,7 +26,7 @@ final class Due {
         if (got != want) {
             wrong++;
             if (wrong <= 40) {
-                System.out.println(call + " answered " + told(got) + ", due is " + told(want));
+                System.out.println(part + call + " answered " + told(got) + ", due is " + told(want));
             }
         }
     }
@@ -104,6 +109,48 @@ final class Due {
             throw new IllegalStateException("a FAULT in this test's STATION: " + text);
         }
         return x;
+    }
+
+    /** A seed whose first draws of n are these, by the document's own rule. */
+    static int seedOf(int n, int... draws) {
+        for (int seed = 0; seed < 50_000_000; seed++) {
+            int x = seed;
+            boolean same = true;
+            for (int k = 0; k < draws.length && same; k++) {
+                x = x * 1103515245 + 12345;
+                same = (x >>> 8) % n == draws[k];
+            }
+            if (same) {
+                return seed;
+            }
+        }
+        throw new IllegalStateException("no seed draws so");
+    }
+
+    /** Runs every method of a test that bears a promise's number, so that none is forgotten. */
+    static void promises(Class<?> test) {
+        Method[] methods = test.getDeclaredMethods();
+        Arrays.sort(methods, Comparator.comparing(Method::getName));
+        for (Method method : methods) {
+            if (method.getName().startsWith("promise")) {
+                part = method.getName() + ": ";
+                int before = asked;
+                runs(method);
+                is("asks something", asked > before, true);
+            }
+        }
+        part = "";
+        close(test.getSimpleName());
+    }
+
+    private static void runs(Method method) {
+        try {
+            method.invoke(null);
+        } catch (InvocationTargetException e) {
+            is("threw " + e.getCause(), 1, 0);
+        } catch (IllegalAccessException e) {
+            is("can't be run", 1, 0);
+        }
     }
 
     static void close(String test) {
