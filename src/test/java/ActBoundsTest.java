@@ -558,6 +558,41 @@ public final class ActBoundsTest {
         Due.is("SECOND at last", x.now(1), 15);
     }
 
+    /** Promise 14: what was undone is as never done, whichever act or LOG comes next. */
+    static void promise14AsNeverDone() {
+        for (int next = 0; next < 5; next++) {
+            WindowSale x = standing(TWO + "stands 60 1;", 60, 0, 0);
+            x.waits(5);
+            Due.is("undo", x.undo(), 2);
+            Due.is("next " + next, doesNext(x, next), next == 4 ? -1 : 0);
+            Due.is("SECOND behind " + next, x.now(1), next == 0 ? 3 : next == 4 ? 2 : 1);
+        }
+        WindowSale y = Due.at(TWO);
+        y.train(9, 0);
+        y.undo();
+        Due.is("a train again", y.train(5, 0), 0);
+        Due.is("the only one", y.now(5), 1);
+        y.begin(1);
+        y.undo();
+        Due.is("begun again", y.begin(0), 0);
+        Due.is("there", y.now(2), 0);
+    }
+
+    private static int doesNext(WindowSale x, int next) {
+        switch (next) {
+            case 0:
+                return x.sell(0);
+            case 1:
+                return x.walk(1);
+            case 2:
+                return x.waits(1);
+            case 3:
+                return Due.log(x, "waits 1;", 1) == -1 ? 0 : 1;
+            default:
+                return Due.log(x, "waits 2;", 1);
+        }
+    }
+
     /** Promise 14: "a LOG that was lived is undone" at once, however many LINES; one that was judged is none. */
     static void promise14ALogIsOne() {
         WindowSale x = Due.at(ONE);

@@ -260,6 +260,7 @@ public final class ChanceBoundsTest {
     /** Promise 20: "and has some GAIN": NONE if it has not at any SECOND. */
     static void promise20SomeGain() {
         Due.is("HONEST 1", Due.at(WINDOW + "stands 2 1;honest 1;shy 12;").trust(0), 1);
+        Due.is("the least GAIN there is", Due.at("window 1 2 1 1;stands 1 1;honest 1;shy 12;").trust(0), 0);
         Due.is("HONEST 0", Due.at(WINDOW + "stands 2 1;honest 0;shy 12;").trust(0), -1);
         Due.is("HONEST 0, CLEAN at 0", Due.at(WINDOW + "stands 3 1;honest 0;shy 12;").trust(0), 0);
     }
@@ -395,6 +396,7 @@ public final class ChanceBoundsTest {
         Due.is("20", Due.at(WINDOW + "stands 20 1;stands 5 9;").idle(), 20);
         Due.is("HONEST 1 alone", Due.at(WINDOW + "stands 20 1;honest 1;shy 12;").idle(), 20);
         Due.is("SHY 11 alone", Due.at(WINDOW + "stands 20 1;honest 0;shy 11;").idle(), 20);
+        Due.is("the least GAIN there is", Due.at("window 1 9 1 1;stands 1 1;honest 1;shy 12;").idle(), 1);
         Due.is("CLEAN ones alone", Due.at(WINDOW + "stands 20 1;honest 0;shy 12;").idle(), 18);
         Due.is("at any WINDOW", Due.at(WINDOW + "window 1 1 1 1;stands 20 1;honest 0;shy 12;").idle(), 20);
         Due.is("not at the first alone", Due.at("window 1 1 1 1;" + WINDOW + "stands 20 1;honest 0;shy 12;").idle(), 20);

@@ -107,6 +107,26 @@ public final class PlanBoundsTest {
         planIs(late, 0, 1, 1, 0, 1);
     }
 
+    /** Promise 21, PLAN: SECONDS of 0 to 3 sales go ahead of those at the next WINDOW. */
+    static void promise21SecondsGoAlong() {
+        WindowSale x = Due.at("window 10 1 3 1;window 9 1 3 1;stands 5 1;honest 0;shy 12;");
+        planIs(x, 0, 1, 6, 39, 1);
+        planIs(x, 0, 1, 3, 30, 1);
+        planIs(x, 1, 0, 6, 39, 1);
+        WindowSale y = Due.at("window 10 1 3 1;window 10 2 3 1;stands 4 1;honest 0;shy 12;");
+        planIs(y, 0, 1, 6, 30, 1);
+        planIs(y, 1, 0, 6, 30, 1);
+    }
+
+    /** Promise 21: of a STATION told behind one whose trains stand longer. */
+    static void promise21BehindALongerOne() {
+        WindowSale x = Due.at("window 10 1 3 1;window 10 1 3 1;stands 60 9;");
+        planIs(x, 0, 1, 6, 60, 1);
+        Due.station(x, "window 10 1 3 1;window 10 1 3 1;stands 2 1;");
+        planIs(x, 0, 1, 6, 20, 1);
+        Due.is("best(2)", x.best(2), 2);
+    }
+
     /** Promise 21, PLAN: "at SECOND 0, WINDOWS that have not bought", wherever the train is now. */
     static void promise21FromSecond0() {
         WindowSale x = Due.at("window 10 2 1 9;stands 5 1;");
@@ -176,6 +196,26 @@ public final class PlanBoundsTest {
         saleIs(three, 1, 1, 2, 0);
         WindowSale dear = Due.at("window 6 1 1 1;window 5 1 1 1;stands 60 1;basket 1;");
         saleIs(dear, 0, 0, 0, 0);
+    }
+
+    /** Promise 22, BEST PLAN: fruits sold are gone: the dearest WINDOWS have them. */
+    static void promise22FruitsAreGone() {
+        WindowSale x = Due.at("window 9 1 1 1;window 5 1 1 1;window 7 1 1 1;stands 60 1;basket 2;");
+        bestIs(x, 0, 1, 2, 16, 4);
+        saleIs(x, 0, 0, 0, 0);
+        saleIs(x, 1, 2, 3, 0);
+        saleIs(x, 2, -1, -1, -1);
+    }
+
+    /** Promise 22: the same, whatever was asked for ahead of it. */
+    static void promise22AskedInAnyOrder() {
+        WindowSale x = Due.at("window 9 1 1 1;window 5 1 1 1;window 7 1 1 1;stands 60 1;basket 2;");
+        planIs(x, 0, 1, 1, 9, 1);
+        earnsIs(x, 2, 0, 14);
+        earnsIs(x, 3, 1, 5);
+        Due.is("border", x.border(), 1);
+        bestIs(x, 0, 1, 2, 16, 4);
+        saleIs(x, 1, 2, 3, 0);
     }
 
     /** Promise 22, PLAN: a sale that gains nothing is none of the fewest. */
@@ -303,6 +343,19 @@ public final class PlanBoundsTest {
         earnsIs(y, 2, 1, 8);
     }
 
+    /** Promise 25: a row UP or DOWN, asked for first, and behind a longer one. */
+    static void promise25AskedFirst() {
+        String text = "window 1 1 1 1;window 9 1 1 1;window 8 1 1 1;window 2 1 1 1;stands 2 1;walk 5;";
+        earnsIs(Due.at(text), 2, 1, 8);
+        earnsIs(Due.at(text), 2, 0, 9);
+        earnsIs(Due.at(text), 1, 0, 2);
+        WindowSale x = Due.at(text);
+        earnsIs(x, 4, 1, 9);
+        earnsIs(x, 2, 0, 9);
+        earnsIs(x, 3, 0, 9);
+        earnsIs(x, 1, 0, 2);
+    }
+
     /** Promise 26: "GAIN of all n SELLERS together": 0, 1, 10, 11 of ten WINDOWS; what. */
     static void promise26NoSuchOnes() {
         WindowSale x = Due.at(STAIRS + "basket 2;");
@@ -403,6 +456,10 @@ public final class PlanBoundsTest {
         Due.is("second from 4", x.race(5, 4, 60, 1), 15);
         Due.is("first from 9", x.race(9, 0, 60, 0), 10);
         Due.is("second from 0", x.race(9, 0, 60, 1), 1);
+        Due.is("first from 0, all ten", x.race(0, 0, 60, 0), 55);
+        Due.is("second from 0 with him", x.race(0, 0, 60, 1), 0);
+        Due.is("first from 9", x.race(9, 9, 60, 0), 10);
+        Due.is("second from 9 with him, the other nine", x.race(9, 9, 60, 1), 45);
     }
 
     /** Promise 28: "a SECOND (0 to 60)", who, WINDOWS: "NONE: no such ones". */

@@ -440,6 +440,10 @@ public final class RecordBoundsTest {
         says(x, "open and (open and (open and (open and (open and (open and (open and number = 3))))))", 0b1000);
         says(x, "open or ".repeat(19) + "fair", 0b1111111111);
         says(x, "not ".repeat(7) + "number = 3", 0b1111110111);
+        WindowSale y = Due.at("window 5 1 0 9;window 5 1 0 10;window 5 1 0 11;");
+        says(y, "open or ".repeat(19) + "fair", 0b110);
+        says(y, "not open and not open and not open and not open and not open and not open and not open"
+            + " and not open and not open and fair", 0b110);
     }
 
     /** Promise 42: "false: no such one": -1, 0, 1, 2. */
@@ -470,6 +474,37 @@ public final class RecordBoundsTest {
         x.restore(1);
         x.restore(0);
         Due.is("the latest in place 0", () -> x.window(0, 0), 2);
+    }
+
+    /** Promise 42: "STATION, all that is so and the SENTENCE are kept", the draws to come too. */
+    static void promise42AllIsKept() {
+        int seed = Due.seedOf(12, 6, 5, 6);
+        WindowSale x = Due.at("window 7 2 3 9;window 5 3 1 9;walk 2;whistle 9;");
+        x.train(12, seed);
+        x.begin(0);
+        x.sell(1);
+        Due.sentence(x, "number = 1");
+        x.image(1);
+        Due.station(x, "window 1 1 1 1;window 1 1 1 1;window 1 1 1 1;");
+        x.train(3, 0);
+        Due.sentence(x, "number = 2");
+        x.restore(1);
+        int[] due = {1, 2, 0, 11, 7, 1, 1, 0, 0, 0, 0};
+        for (int k = 0; k < due.length; k++) {
+            Due.is("now(" + k + ")", x.now(k), due[k]);
+        }
+        Due.is("the SENTENCE", x.said(0), 1);
+        Due.is("of one", x.said(-1), 1);
+        Due.is("the STATION", x.count(3), 2);
+        Due.is("bought", () -> x.window(0, 4), 1);
+        Due.is("bought in all", () -> x.window(0, 5), 1);
+        Due.is("latest", x.latest(), 1);
+        Due.is("not heard yet", x.heard(), 0);
+        x.sell(1);
+        Due.is("the next draw", x.latest(), 5);
+        Due.is("heard", x.heard(), 1);
+        x.sell(1);
+        Due.is("the draw behind it", x.latest(), 1);
     }
 
     /** Promise 42: what is kept is no longer touched by what is done. */

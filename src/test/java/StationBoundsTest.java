@@ -275,6 +275,14 @@ public final class StationBoundsTest {
             Due.is("no fruits", x.now(3), 0);
             Due.is("no pence", x.now(4), 0);
             Due.is("no trains", x.now(5), 0);
+            for (int what = 6; what <= 10; what++) {
+                Due.is("no sales: now(" + what + ")", x.now(what), 0);
+            }
+            for (int w = 0; w < x.count(0); w++) {
+                int window = w;
+                Due.is("nothing bought", () -> x.window(window, 4), 0);
+                Due.is("nothing bought in all", () -> x.window(window, 5), 0);
+            }
             Due.is("no SENTENCE", x.said(-1), -1);
             Due.is("no sale", x.latest(), 0);
             Due.is("nothing can be undone", x.undo(), -1);

@@ -47,6 +47,12 @@ public final class TokenBoundsTest {
         Texts.noStation("WALK 1;", 0, 1);
         Texts.station("again 1;", 1);
         Texts.noStation("`gain 1;", 0, 1);
+        Texts.noStation("cost 5a;", 5, 1);
+        Texts.noStation("cost 5z;", 5, 1);
+        Texts.noStation("cost 5`;", 6, 1);
+        Texts.noStation("cost 5{;", 6, 1);
+        Texts.noStation("costz 5;", 0, 1);
+        Texts.noStation("cost{ 5;", 4, 1);
     }
 
     /** Promise 4, TOKENS: "digits": the bytes beside 0 and 9 are none. */
