@@ -136,6 +136,19 @@ public final class ChanceBoundsTest {
         yetIs(y, 3, 1, 1);
     }
 
+    /** Promise 17: of a STATION told behind one that has more 'stands'. */
+    static void promise17BehindMoreStands() {
+        WindowSale x = Due.at(WINDOW + "stands 10 1;stands 20 1;stands 30 9;stands 40 9;");
+        Due.station(x, WINDOW + "stands 10 1;stands 20 1;");
+        x.train(20, 0);
+        yetIs(x, 11, 1, 2);
+        yetIs(x, 21, 0, 1);
+        Due.station(x, WINDOW);
+        x.train(60, 0);
+        yetIs(x, 10, 1, 1);
+        yetIs(x, 11, 0, 1);
+    }
+
     /** Promise 17: "All fractions .. in least terms": nothing is 0 of 1, all 1 of 1. */
     static void promise17LeastTerms() {
         WindowSale x = standing(WINDOW + "stands 10 6;stands 20 9;stands 30 3;", 30, 0);
@@ -400,6 +413,16 @@ public final class ChanceBoundsTest {
         Due.is("CLEAN ones alone", Due.at(WINDOW + "stands 20 1;honest 0;shy 12;").idle(), 18);
         Due.is("at any WINDOW", Due.at(WINDOW + "window 1 1 1 1;stands 20 1;honest 0;shy 12;").idle(), 20);
         Due.is("not at the first alone", Due.at("window 1 1 1 1;" + WINDOW + "stands 20 1;honest 0;shy 12;").idle(), 20);
+    }
+
+    /** Promise 35: of a STATION told behind one that has more WINDOWS. */
+    static void promise35BehindMoreWindows() {
+        WindowSale x = Due.at("window 1 3 1 1;window 1 1 1 1;stands 20 1;honest 0;shy 12;");
+        Due.is("two", x.idle(), 20);
+        Due.station(x, "window 1 3 1 1;stands 20 1;honest 0;shy 12;");
+        Due.is("one", x.idle(), 18);
+        Due.station(x, "stands 20 1;");
+        Due.is("none", x.idle(), 0);
     }
 
     /** Promise 35: "(60 at most; 0 without WINDOWS)". */

@@ -79,6 +79,34 @@ public final class PlanBoundsTest {
         planIs(x, 9, 0, 24, 55, 1);
     }
 
+    /** Promise 21, PLAN: of ten WINDOWS UP from the first is not DOWN from the last. */
+    static void promise21UpIsNotDown() {
+        WindowSale x = Due.at(stairs() + "stands 3 1;honest 0;shy 12;");
+        planIs(x, 0, 1, 24, 3, 1);
+        planIs(x, 9, 0, 24, 19, 1);
+        planIs(x, 9, 1, 24, 10, 1);
+        planIs(x, 0, 0, 24, 1, 1);
+    }
+
+    /** Promise 22, BEST PLAN: the last of ten WINDOWS, DOWN: ahead of those that gain less. */
+    static void promise22DownFromTheLast() {
+        WindowSale x = Due.at(stairs() + "stands 1 1;stands 3 1;honest 0;shy 12;");
+        bestIs(x, 9, 0, 2, 19, 3);
+        saleIs(x, 0, 9, 0, 0);
+        saleIs(x, 1, 8, 2, 0);
+    }
+
+    /** Promise 22, BEST PLAN: he comes to the last WINDOW of his way at SECOND 59, and at 60: then he sells nothing. */
+    static void promise22ComesAtSecond59And60() {
+        String stands = "walk 4;stands 27 9;stands 60 1;honest 12;";
+        WindowSale x = Due.at("window 1 1 1 1;window 1 8 3 1;window 99 9 3 1;" + stands);
+        bestIs(x, 2, 0, 7, 301, 60);
+        saleIs(x, 6, 0, 59, 0);
+        WindowSale y = Due.at("window 1 1 1 1;window 1 1 0 1;window 2 7 3 1;window 99 9 3 1;" + stands);
+        bestIs(y, 3, 0, 6, 303, 52);
+        saleIs(y, 6, -1, -1, -1);
+    }
+
     /** Promise 21: "no such ones": WINDOWS, UP (1) or DOWN (0), what. */
     static void promise21NoSuchOnes() {
         WindowSale x = Due.at(STAIRS);
@@ -125,6 +153,22 @@ public final class PlanBoundsTest {
         Due.station(x, "window 10 1 3 1;window 10 1 3 1;stands 2 1;");
         planIs(x, 0, 1, 6, 20, 1);
         Due.is("best(2)", x.best(2), 2);
+        WindowSale y = Due.at("window 10 1 3 1;window 10 1 3 1;stands 60 9;");
+        Due.is("six sales", y.best(2), 6);
+        // he comes to the second WINDOW at the very SECOND at which the train moves
+        Due.station(y, "window 10 1 2 1;window 1 1 3 1;stands 3 1;");
+        bestIs(y, 0, 1, 2, 20, 2);
+    }
+
+    /** Promise 21, PLAN: the third sale at the third WINDOW begins at SECOND 59, and at 60: then it gains nothing. */
+    static void promise21AtSecond59And60() {
+        String rest = "window 1 9 1 1;stands 60 1;walk 2;honest 12;";
+        WindowSale x = Due.at("window 10 9 3 1;window 10 6 3 1;window 10 5 3 1;" + rest);
+        planIs(x, 0, 1, 9, 90, 1);
+        bestIs(x, 0, 1, 9, 90, 64);
+        saleIs(x, 8, 2, 59, 0);
+        WindowSale y = Due.at("window 10 9 3 1;window 10 5 3 1;window 10 7 3 1;" + rest);
+        planIs(y, 0, 1, 9, 80, 1);
     }
 
     /** Promise 21, PLAN: "at SECOND 0, WINDOWS that have not bought", wherever the train is now. */
@@ -205,6 +249,18 @@ public final class PlanBoundsTest {
         saleIs(x, 0, 0, 0, 0);
         saleIs(x, 1, 2, 3, 0);
         saleIs(x, 2, -1, -1, -1);
+    }
+
+    /** Promise 22: of a STATION told behind one that has more WINDOWS; it begins at the last one, UP. */
+    static void promise22BehindMoreWindows() {
+        WindowSale x = Due.at(TEN);
+        Due.is("24 sales", x.best(2), 24);
+        Due.station(x, "window 1 1 0 1;window 9 1 3 1;stands 3 1;stands 60 1;honest 0;shy 12;");
+        bestIs(x, 1, 1, 3, 27, 3);
+        saleIs(x, 2, 1, 2, 0);
+        saleIs(x, 3, -1, -1, -1);
+        Due.is("sellers", x.sellers(), 1);
+        Due.is("border", x.border(), 0);
     }
 
     /** Promise 22: the same, whatever was asked for ahead of it. */
