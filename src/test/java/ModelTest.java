@@ -18,7 +18,23 @@ public final class ModelTest {
             days(m, x, random);
             stillStands(m, x, random);
         }
+        tenWindows(random, used);
         Due.close("ModelTest");
+    }
+
+    /** As many WINDOWS as there may be: fewer rounds, for every plan of them is tried. */
+    private static void tenWindows(Random random, WindowSale used) {
+        for (int round = 0; round < 60; round++) {
+            Model m = Model.random(random, 10);
+            while (m.windows < 10) {
+                m = Model.random(random, 10);
+            }
+            Due.is("station", Due.station(used, m.text()) > 0, true);
+            plans(m, used);
+            best(m, used);
+            two(m, used, random);
+            days(m, used, random);
+        }
     }
 
     private static int divisor(int a, int b) {
