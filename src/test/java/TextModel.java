@@ -51,6 +51,12 @@ final class TextModel {
     int kind;
     int many;
     One saying;
+    /** What a STATION told: PRICE TAKES OFTEN WORTH of WINDOWS, SECONDS WEIGHT of 'stands', the eight others. */
+    final List<int[]> windows = new ArrayList<>();
+    final List<int[]> stands = new ArrayList<>();
+    final int[] settings = {1, 12, 6, 6, 0, 6, 3, 1};
+    /** What a LOG told: which act, its NUMBER. */
+    final List<int[]> acts = new ArrayList<>();
     private final List<Token> tokens = new ArrayList<>();
     private int at;
 
@@ -126,17 +132,12 @@ final class TextModel {
         int[] most = {5, 24, 12, 12, 30, 11, 12, 99};
         List<String> told = new ArrayList<>();
         List<Integer> seconds = new ArrayList<>();
-        int windows = 0;
         for (; !ends(); many++) {
             Token word = token();
             if (word.is("window")) {
-                needs(windows < 10, 4);
-                windows++;
+                needs(windows.size() < 10, 4);
                 at++;
-                number(1, 99);
-                number(1, 9);
-                number(0, 3);
-                number(0, 99);
+                windows.add(new int[] {number(1, 99), number(1, 9), number(0, 3), number(0, 99)});
             } else if (word.is("stands")) {
                 needs(seconds.size() < 6, 4);
                 at++;
@@ -145,14 +146,14 @@ final class TextModel {
                 needs(!seconds.contains(second), 3);
                 seconds.add(second);
                 at++;
-                number(1, 9);
+                stands.add(new int[] {second, number(1, 9)});
             } else {
                 int k = words.indexOf(String.valueOf(word.text));
                 needs(k >= 0, 1);
                 needs(!told.contains(word.text), 3);
                 told.add(word.text);
                 at++;
-                number(k == 0 ? 1 : 0, most[k]);
+                settings[k] = number(k == 0 ? 1 : 0, most[k]);
             }
             sign(";");
         }
@@ -165,14 +166,15 @@ final class TextModel {
     }
 
     private void readLog() {
+        List<String> words = List.of("train", "at", "fruit", "coin", "up", "down", "waits");
         for (; !ends(); many++) {
             Token word = token();
-            needs(word.is("train", "at", "fruit", "coin", "up", "down", "waits"), 1);
+            int act = words.indexOf(String.valueOf(word.text));
+            needs(act >= 0, 1);
             needs(many < 40, 4);
             at++;
-            if (word.is("train", "at", "waits")) {
-                number(word.is("waits") ? 1 : 0, word.is("at") ? 9 : 60);
-            }
+            boolean numbered = word.is("train", "at", "waits");
+            acts.add(new int[] {act, numbered ? number(word.is("waits") ? 1 : 0, word.is("at") ? 9 : 60) : 0});
             sign(";");
         }
     }
